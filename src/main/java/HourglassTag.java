@@ -280,7 +280,7 @@ public final class HourglassTag {
         }
         ways.layOut(game);
         hash = withTowers(hash);
-        for (int i = 0; i < game.players && i < MOST_PLAYERS; i++) {
+        for (int i = 0; i < game.players; i++) {
             hash = withPlayer(hash, i);
         }
         hash = 31L * hash + game.playersInReachOfIt();

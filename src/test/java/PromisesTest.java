@@ -25,6 +25,7 @@ public final class PromisesTest {
         clearBuffer();
         firstError();
         run();
+        runReachesBothEnds();
         runStops();
         runRefused();
         keep();
@@ -480,6 +481,24 @@ public final class PromisesTest {
         same("1 on 1", z.playerOf(1, 0), 1);
     }
 
+    private static void runReachesBothEnds() {
+        HourglassTag x = withPlayers(5, 200, 4, 0, 4, 0, 5, 0);
+        x.set(0, 20);
+        x.set(3, 5);
+        type(x, "wwww" + "wwww" + "s9www" + "wwww" + "s0www" + "t3wwt2" + "s0");
+        same("all but the last are done", x.run(), 24);
+        same("0 went to 9, then to 0", x.playerOf(0, 0), 0);
+        same("sand on 0 is gathered", x.tower(0, 1), 0);
+        same("8 of 5's way lie there", x.tower(5, 1), 8);
+        same("18 of 9's way lie there", x.tower(9, 1), 18);
+        same("tags", x.count(5), 2);
+        same("it", x.count(2), 2);
+        same("refused", x.count(4), 1);
+        x.turnOver();
+        same("1 lies on 0", x.tower(0, 1), 1);
+        same("on towers", x.count(8), 27);
+    }
+
     private static void runStops() {
         HourglassTag x = withPlayers(3, 30, 4, 30);
         type(x, "wws3w");
@@ -704,6 +723,9 @@ public final class PromisesTest {
 
     // promise 18
     private static void count() {
+        HourglassTag alone = withPlayers(3, 30);
+        same("alone on the move", alone.count(1), 0);
+        same("alone is it", alone.count(2), 0);
         HourglassTag x = withPlayers(3, 30, 4, 40);
         rest(x, 2);
         x.tag(1);
@@ -901,7 +923,11 @@ public final class PromisesTest {
         CHECK.same("without players", x.belowShare(), 0.0);
         x.player(0, 0);
         CHECK.same("without sand", x.belowShare(), 0.0);
-        x.player(0, 9);
+        x.player(0, 1);
+        x.rest();
+        x.rest();
+        CHECK.same("one grain, below", x.belowShare(), 1.0);
+        x = withPlayers(0, 0, 0, 9);
         CHECK.same("all above", x.belowShare(), 0.0);
         rest(x, 2);
         CHECK.same("a third", x.belowShare(), 3.0 / 9.0);
@@ -916,6 +942,11 @@ public final class PromisesTest {
     private static void digest() {
         HourglassTag x = new HourglassTag();
         same("new", x.digest(), digestOf(x, 0, 0, ""));
+        HourglassTag grain = withPlayers(0, 200, 0, 200, 0, 200, 0, 200);
+        grain.set(0, 1);
+        grain.rest();
+        same("with the smallest share", grain.digest(), digestOf(grain, 0, 0, ""));
+        same("the smallest share", grain.belowShare() == 1.0 / 800.0 ? 1 : 0, 1);
         x.player(0, 20);
         x.player(3, 30);
         x.player(9, 200);
