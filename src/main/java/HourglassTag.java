@@ -157,7 +157,7 @@ public final class HourglassTag {
         past.save(game);
         int done = 0;
         int at = 0;
-        while (at < text.length && playMove(text.codeAt(at), text.digitAt(at + 1))) {
+        while (done < Text.LONGEST && at < text.length && playMove(text.codeAt(at), text.digitAt(at + 1))) {
             done++;
             at += text.widthOfMove(at);
         }

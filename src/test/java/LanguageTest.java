@@ -266,7 +266,7 @@ public final class LanguageTest {
             return null;
         }
 
-        /** One loop's end stands in the steps of its text: each step is 1 or 2 characters. */
+        /** All loops but one count in their head; the one in run counts what is done. */
         @Override
         public Void visitWhileLoop(WhileLoopTree tree, Void none) {
             CHECK.holds("while only in run", method.equals("run"));
