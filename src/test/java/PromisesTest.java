@@ -1,9 +1,9 @@
 /** At least one run for each promise of the document: ordinary inputs, the edges that it names, wrong inputs. */
 public final class PromisesTest {
     private static final Check CHECK = new Check();
-    private static final Class<IndexOutOfBoundsException> INDEX = IndexOutOfBoundsException.class;
-    private static final Class<IllegalArgumentException> ARGUMENT = IllegalArgumentException.class;
-    private static final Class<IllegalStateException> STATE = IllegalStateException.class;
+    private static final Class<IndexOutOfBoundsException> INDEX = Games.INDEX;
+    private static final Class<IllegalArgumentException> ARGUMENT = Games.ARGUMENT;
+    private static final Class<IllegalStateException> STATE = Games.STATE;
     private static final int[] NO_TOWERS = {-1, 10, Integer.MIN_VALUE, Integer.MAX_VALUE};
 
     public static void main(String[] args) {
@@ -57,34 +57,6 @@ public final class PromisesTest {
 
     private static void refuses(String what, HourglassTag x, Class<? extends RuntimeException> due, Runnable call) {
         CHECK.refuses(what, x, due, call);
-    }
-
-    private static HourglassTag withHeights(int... heights) {
-        HourglassTag x = new HourglassTag();
-        for (int i = 0; i < heights.length; i++) {
-            x.height(i, heights[i]);
-        }
-        return x;
-    }
-
-    private static HourglassTag withPlayers(int... towersAndSand) {
-        HourglassTag x = new HourglassTag();
-        for (int i = 0; i < towersAndSand.length; i += 2) {
-            x.player(towersAndSand[i], towersAndSand[i + 1]);
-        }
-        return x;
-    }
-
-    private static void type(HourglassTag x, String text) {
-        for (int i = 0; i < text.length(); i++) {
-            x.append(text.charAt(i));
-        }
-    }
-
-    private static void rest(HourglassTag x, int times) {
-        for (int i = 0; i < times; i++) {
-            x.rest();
-        }
     }
 
     private static void glass(String what, HourglassTag x, int player, int above, int below) {
@@ -159,8 +131,8 @@ public final class PromisesTest {
     }
 
     private static void playerAfterMoves() {
-        HourglassTag x = withPlayers(0, 20);
-        rest(x, 2);
+        HourglassTag x = Games.withPlayers(0, 20);
+        Games.rest(x, 2);
         x.stride(1);
         x.player(0, 5);
         same("gathers nothing", x.tower(0, 1), 2);
@@ -220,9 +192,9 @@ public final class PromisesTest {
 
     // promise 6
     private static void stride() {
-        HourglassTag x = withPlayers(2, 50, 7, 50);
+        HourglassTag x = Games.withPlayers(2, 50, 7, 50);
         x.set(0, 10);
-        rest(x, 2);
+        Games.rest(x, 2);
         same("stride to a neighbour", x.stride(3), 0);
         same("stands there", x.playerOf(0, 0), 3);
         glass("paid 2, and 10 ran", x, 0, 30, 18);
@@ -246,7 +218,7 @@ public final class PromisesTest {
     }
 
     private static void strideReasons() {
-        HourglassTag x = withHeights(2, 0, 5, 0, 3, 9);
+        HourglassTag x = Games.withHeights(2, 0, 5, 0, 3, 9);
         x.player(0, 100);
         x.set(0, 7);
         x.rest();
@@ -259,7 +231,7 @@ public final class PromisesTest {
         glass("paid 2", x, 0, 79, 12);
         same("3: 1 apart and 5 higher is 7", x.stride(2), 0);
         same("3: 3 apart and 4 higher is 10", x.stride(5), 0);
-        HourglassTag poor = withHeights(2, 0, 5);
+        HourglassTag poor = Games.withHeights(2, 0, 5);
         poor.player(0, 100);
         poor.set(0, 6);
         poor.rest();
@@ -271,9 +243,9 @@ public final class PromisesTest {
     }
 
     private static void strideLeavesAndGathers() {
-        HourglassTag x = withPlayers(4, 40, 6, 40);
+        HourglassTag x = Games.withPlayers(4, 40, 6, 40);
         x.set(0, 20);
-        rest(x, 2);
+        Games.rest(x, 2);
         same("0 leaves 2 on 4", x.stride(5), 0);
         same("1 comes to 5 and gathers nothing", x.stride(5), 0);
         same("0 gathers what 1 left on 6", x.stride(6), 0);
@@ -297,7 +269,7 @@ public final class PromisesTest {
         same("still on the move", x.count(1), 0);
         same("refused", x.count(4), 1);
         same("saved", x.count(10), 3);
-        rest(x, 2);
+        Games.rest(x, 2);
         x.set(2, 3);
         same("all 3 below are just enough", x.turnOver(), 0);
         glass("turned, and nothing above to run", x, 0, 0, 17);
@@ -314,7 +286,7 @@ public final class PromisesTest {
     }
 
     private static void turnOverForNothing() {
-        HourglassTag x = withPlayers(3, 5);
+        HourglassTag x = Games.withPlayers(3, 5);
         x.set(2, 0);
         same("0 of 0 is enough", x.turnOver(), 0);
         glass("turned", x, 0, 0, 5);
@@ -325,9 +297,9 @@ public final class PromisesTest {
 
     // promise 8
     private static void tag() {
-        HourglassTag x = withPlayers(3, 50, 4, 50);
+        HourglassTag x = Games.withPlayers(3, 50, 4, 50);
         x.set(0, 5);
-        rest(x, 2);
+        Games.rest(x, 2);
         same("tag", x.tag(1), 0);
         glass("taken from", x, 1, 45, 3);
         glass("half of 5 is 2, put above before 5 run", x, 0, 42, 10);
@@ -355,7 +327,7 @@ public final class PromisesTest {
     }
 
     private static void tagReasons() {
-        HourglassTag x = withHeights(0, 0, 0, 4);
+        HourglassTag x = Games.withHeights(0, 0, 0, 4);
         x.player(1, 30);
         x.player(4, 30);
         x.player(9, 30);
@@ -379,7 +351,7 @@ public final class PromisesTest {
     }
 
     private static void tagPasses() {
-        HourglassTag x = withPlayers(5, 10, 5, 10);
+        HourglassTag x = Games.withPlayers(5, 10, 5, 10);
         x.set(3, 0);
         same("on the same tower with reach 0", x.tag(1), 0);
         glass("half of nothing", x, 1, 10, 0);
@@ -411,7 +383,7 @@ public final class PromisesTest {
     private static void clearBuffer() {
         HourglassTag x = new HourglassTag();
         same("empty", x.clearBuffer(), 0);
-        type(x, "abc");
+        Games.type(x, "abc");
         same("three", x.clearBuffer(), 3);
         same("cleared", x.clearBuffer(), 0);
         same("append behind it", x.append('w'), 1);
@@ -447,7 +419,7 @@ public final class PromisesTest {
 
     private static void error(String text, int due) {
         HourglassTag x = new HourglassTag();
-        type(x, text);
+        Games.type(x, text);
         same("firstError of " + text, x.firstError(), due);
         same("firstError of " + text + " again", x.firstError(), due);
         same("the buffer stays", x.clearBuffer(), text.length());
@@ -455,11 +427,11 @@ public final class PromisesTest {
 
     // promise 12
     private static void run() {
-        HourglassTag x = withPlayers(3, 30, 4, 30);
-        HourglassTag y = withPlayers(3, 30, 4, 30);
-        type(x, "wwt1s5os1");
+        HourglassTag x = Games.withPlayers(3, 30, 4, 30);
+        HourglassTag y = Games.withPlayers(3, 30, 4, 30);
+        Games.type(x, "wwt1s5os1");
         same("all but the last are done", x.run(), 5);
-        rest(y, 2);
+        Games.rest(y, 2);
         same("tag", y.tag(1), 0);
         same("stride with the last grains", y.stride(5), 0);
         same("turn", y.turnOver(), 0);
@@ -472,9 +444,9 @@ public final class PromisesTest {
                 same("player " + player + ", " + what, x.playerOf(player, what), y.playerOf(player, what));
             }
         }
-        HourglassTag z = withPlayers(3, 30, 4, 30);
+        HourglassTag z = Games.withPlayers(3, 30, 4, 30);
         z.set(1, 0);
-        type(z, "wwt1s5os1");
+        Games.type(z, "wwt1s5os1");
         same("free strides", z.run(), 6);
         same("moves", z.count(3), 6);
         same("0 still on 3", z.playerOf(0, 0), 3);
@@ -482,10 +454,10 @@ public final class PromisesTest {
     }
 
     private static void runReachesBothEnds() {
-        HourglassTag x = withPlayers(5, 200, 4, 0, 4, 0, 5, 0);
+        HourglassTag x = Games.withPlayers(5, 200, 4, 0, 4, 0, 5, 0);
         x.set(0, 20);
         x.set(3, 5);
-        type(x, "wwww" + "wwww" + "s9www" + "wwww" + "s0www" + "t3wwt2" + "s0");
+        Games.type(x, "wwww" + "wwww" + "s9www" + "wwww" + "s0www" + "t3wwt2" + "s0");
         same("all but the last are done", x.run(), 24);
         same("0 went to 9, then to 0", x.playerOf(0, 0), 0);
         same("sand on 0 is gathered", x.tower(0, 1), 0);
@@ -500,8 +472,8 @@ public final class PromisesTest {
     }
 
     private static void runStops() {
-        HourglassTag x = withPlayers(3, 30, 4, 30);
-        type(x, "wws3w");
+        HourglassTag x = Games.withPlayers(3, 30, 4, 30);
+        Games.type(x, "wws3w");
         same("the third is refused", x.run(), 2);
         same("moves", x.count(3), 2);
         same("counted as refused", x.count(4), 1);
@@ -512,15 +484,15 @@ public final class PromisesTest {
         same("moves undone", x.count(3), 0);
         same("refused undone", x.count(4), 0);
         same("the buffer does not come back", x.clearBuffer(), 0);
-        type(x, "wt3w");
+        Games.type(x, "wt3w");
         same("player 3 is none: the method would throw", x.run(), 1);
         same("which is not refused", x.count(4), 0);
         same("moves", x.count(3), 1);
-        type(x, "t2");
+        Games.type(x, "t2");
         same("nothing done", x.run(), 0);
         same("saved all the same", x.count(10), 4);
         HourglassTag empty = new HourglassTag();
-        type(empty, "ws5ot0");
+        Games.type(empty, "ws5ot0");
         same("no player: nothing done", empty.run(), 0);
         same("saved", empty.count(10), 1);
         same("cleared", empty.clearBuffer(), 0);
@@ -528,23 +500,23 @@ public final class PromisesTest {
     }
 
     private static void runRefused() {
-        HourglassTag x = withPlayers(3, 30);
+        HourglassTag x = Games.withPlayers(3, 30);
         refuses("an empty buffer", x, ARGUMENT, x::run);
         for (String text : new String[] {"s", "ws", "wt", "wx", "t4", "w0", "s3t"}) {
             x.clearBuffer();
-            type(x, text);
+            Games.type(x, text);
             refuses("run of " + text, x, ARGUMENT, x::run);
             same("the buffer stays", x.clearBuffer(), text.length());
         }
-        HourglassTag full = withPlayers(3, 200);
-        type(full, "wwwwwwwwwwwwwwwwwwwwwwwwwwwwwwwwwwwwwwwwwwwwwwwwwwwwwwwwwwww");
+        HourglassTag full = Games.withPlayers(3, 200);
+        Games.type(full, "wwwwwwwwwwwwwwwwwwwwwwwwwwwwwwwwwwwwwwwwwwwwwwwwwwwwwwwwwwww");
         same("60 moves", full.run(), 60);
         glass("60 times 3", full, 0, 20, 180);
     }
 
     // promise 13
     private static void keep() {
-        HourglassTag x = withPlayers(3, 30);
+        HourglassTag x = Games.withPlayers(3, 30);
         same("keep(0)", x.keep(0), 0);
         x.rest();
         same("keep(1)", x.keep(1), 1);
@@ -561,7 +533,7 @@ public final class PromisesTest {
 
     // promise 14
     private static void goBack() {
-        HourglassTag x = withPlayers(3, 30);
+        HourglassTag x = Games.withPlayers(3, 30);
         for (int s : new int[] {-1, 2, Integer.MIN_VALUE, Integer.MAX_VALUE}) {
             refuses("goBack " + s, x, ARGUMENT, () -> x.goBack(s));
         }
@@ -574,7 +546,7 @@ public final class PromisesTest {
         x.player(0, 10);
         x.rest();
         x.stride(1);
-        type(x, "ow");
+        Games.type(x, "ow");
         same("goBack(1)", x.goBack(1), 1);
         same("height", x.tower(5, 0), 0);
         same("setting", x.setting(1), 2);
@@ -596,7 +568,7 @@ public final class PromisesTest {
         refuses("nothing to undo", x, STATE, x::undo);
         x.player(3, 30);
         x.keep(0);
-        type(x, "w");
+        Games.type(x, "w");
         same("undo", x.undo(), 0);
         same("no player", x.count(0), 0);
         same("none on the move", x.count(1), -1);
@@ -609,7 +581,7 @@ public final class PromisesTest {
     }
 
     private static void undoOfEachKind() {
-        HourglassTag x = withPlayers(3, 30, 4, 30);
+        HourglassTag x = Games.withPlayers(3, 30, 4, 30);
         x.rest();
         x.keep(0);
         x.rest();
@@ -623,7 +595,7 @@ public final class PromisesTest {
         undone(x, () -> x.tag(1), "tag");
         undone(x, () -> x.tag(0), "tag refused");
         undone(x, () -> x.goBack(0), "goBack");
-        HourglassTag poor = withPlayers(3, 30);
+        HourglassTag poor = Games.withPlayers(3, 30);
         undone(poor, poor::turnOver, "turnOver refused");
     }
 
@@ -637,7 +609,7 @@ public final class PromisesTest {
     }
 
     private static void undoSixStates() {
-        HourglassTag x = withPlayers(3, 30);
+        HourglassTag x = Games.withPlayers(3, 30);
         for (int i = 1; i <= 8; i++) {
             x.height(0, i);
         }
@@ -654,7 +626,7 @@ public final class PromisesTest {
 
     // promise 16
     private static void tower() {
-        HourglassTag x = withPlayers(3, 30, 5, 1, 3, 2, 9, 0);
+        HourglassTag x = Games.withPlayers(3, 30, 5, 1, 3, 2, 9, 0);
         x.height(3, 6);
         same("height", x.tower(3, 0), 6);
         same("players on 3", x.tower(3, 2), 5);
@@ -666,7 +638,7 @@ public final class PromisesTest {
         x.set(2, 0);
         x.turnOver();
         x.undo();
-        rest(x, 4);
+        Games.rest(x, 4);
         x.set(2, 3);
         x.turnOver();
         same("sand on 3", x.tower(3, 1), 3);
@@ -685,7 +657,7 @@ public final class PromisesTest {
         for (int tower = 0; tower < 10; tower++) {
             same("all are seen on the flat", flat.tower(tower, 3), 1023);
         }
-        HourglassTag x = withHeights(0, 3, 1, 3, 4, 0, 9, 0, 0, 2);
+        HourglassTag x = Games.withHeights(0, 3, 1, 3, 4, 0, 9, 0, 0, 2);
         same("0 sees 0, 1, 3, 4, 6", x.tower(0, 3), 0b0001011011);
         same("1 sees 0, 1, 2, 3, 4, 6", x.tower(1, 3), 0b0001011111);
         same("2 sees 1, 2, 3, 4, 6", x.tower(2, 3), 0b0001011110);
@@ -697,8 +669,8 @@ public final class PromisesTest {
 
     // promise 17
     private static void playerOf() {
-        HourglassTag x = withPlayers(3, 30, 4, 40);
-        rest(x, 2);
+        HourglassTag x = Games.withPlayers(3, 30, 4, 40);
+        Games.rest(x, 2);
         x.stride(2);
         x.tag(0);
         x.turnOver();
@@ -723,15 +695,15 @@ public final class PromisesTest {
 
     // promise 18
     private static void count() {
-        HourglassTag alone = withPlayers(3, 30);
+        HourglassTag alone = Games.withPlayers(3, 30);
         same("alone on the move", alone.count(1), 0);
         same("alone is it", alone.count(2), 0);
-        HourglassTag x = withPlayers(3, 30, 4, 40);
-        rest(x, 2);
+        HourglassTag x = Games.withPlayers(3, 30, 4, 40);
+        Games.rest(x, 2);
         x.tag(1);
         x.stride(4);
         x.stride(3);
-        type(x, "wws3w");
+        Games.type(x, "wws3w");
         x.run();
         int[] due = {2, 0, 1, 6, 2, 1, 70, 68, 2, 70, 6};
         for (int what = 0; what <= 10; what++) {
@@ -758,7 +730,7 @@ public final class PromisesTest {
 
     // promise 20
     private static void price() {
-        HourglassTag x = withHeights(0, 3, 1);
+        HourglassTag x = Games.withHeights(0, 3, 1);
         for (int how = 0; how < 2; how++) {
             int w = how;
             same("to itself", x.price(4, 4, how), 0);
@@ -786,7 +758,7 @@ public final class PromisesTest {
     }
 
     private static void priceOverOthers() {
-        HourglassTag x = withHeights(9, 0, 9, 0, 9, 0, 9, 0, 9, 0);
+        HourglassTag x = Games.withHeights(9, 0, 9, 0, 9, 0, 9, 0, 9, 0);
         for (int how = 0; how < 2; how++) {
             same("from top to top", x.price(0, 8, how), 16);
             same("from top to the last", x.price(0, 9, how), 18);
@@ -797,11 +769,11 @@ public final class PromisesTest {
 
     // promise 21
     private static void whyNot() {
-        HourglassTag x = withHeights(2, 0, 5, 0, 3, 9);
+        HourglassTag x = Games.withHeights(2, 0, 5, 0, 3, 9);
         x.player(0, 100);
         x.player(4, 10);
         x.set(0, 7);
-        rest(x, 2);
+        Games.rest(x, 2);
         int[] zero = {1, 0, 0, 2, 2, 3, 2, 2, 2, 2};
         int[] one = {2, 2, 0, 0, 1, 3, 2, 2, 2, 2};
         for (int tower = 0; tower < 10; tower++) {
@@ -819,7 +791,7 @@ public final class PromisesTest {
 
     // promise 22
     private static void movesTo() {
-        HourglassTag x = withPlayers(0, 20, 5, 4, 2, 0);
+        HourglassTag x = Games.withPlayers(0, 20, 5, 4, 2, 0);
         same("there", x.movesTo(0, 0), 0);
         same("wait, stride", x.movesTo(0, 1), 2);
         same("wait, wait, stride", x.movesTo(0, 2), 3);
@@ -852,7 +824,7 @@ public final class PromisesTest {
     }
 
     private static void movesToGathersAndTurns() {
-        HourglassTag x = withPlayers(4, 8, 5, 0);
+        HourglassTag x = Games.withPlayers(4, 8, 5, 0);
         x.set(0, 1);
         x.set(2, 0);
         x.set(1, 4);
@@ -890,7 +862,7 @@ public final class PromisesTest {
         x.rest();
         same("who is it is not on the move", x.prey(), 0b1000);
         x.set(3, 1);
-        rest(x, 3);
+        Games.rest(x, 3);
         x.tag(1);
         same("1 is it now, and reaches all", x.prey(), 0b1101);
     }
@@ -927,89 +899,53 @@ public final class PromisesTest {
         x.rest();
         x.rest();
         CHECK.same("one grain, below", x.belowShare(), 1.0);
-        x = withPlayers(0, 0, 0, 9);
+        x = Games.withPlayers(0, 0, 0, 9);
         CHECK.same("all above", x.belowShare(), 0.0);
-        rest(x, 2);
+        Games.rest(x, 2);
         CHECK.same("a third", x.belowShare(), 3.0 / 9.0);
         x.rest();
         x.stride(1);
         CHECK.same("without what lies on towers", x.belowShare(), 4.0 / 7.0);
-        rest(x, 4);
+        Games.rest(x, 4);
         CHECK.same("all below", x.belowShare(), 1.0);
     }
 
     // promise 26
     private static void digest() {
         HourglassTag x = new HourglassTag();
-        same("new", x.digest(), digestOf(x, 0, 0, ""));
-        HourglassTag grain = withPlayers(0, 200, 0, 200, 0, 200, 0, 200);
+        same("new", x.digest(), DigestSentences.due(x, 0, 0, ""));
+        HourglassTag grain = Games.withPlayers(0, 200, 0, 200, 0, 200, 0, 200);
         grain.set(0, 1);
         grain.rest();
-        same("with the smallest share", grain.digest(), digestOf(grain, 0, 0, ""));
+        same("with the smallest share", grain.digest(), DigestSentences.due(grain, 0, 0, ""));
         same("the smallest share", grain.belowShare() == 1.0 / 800.0 ? 1 : 0, 1);
         x.player(0, 20);
         x.player(3, 30);
         x.player(9, 200);
         x.height(1, 4);
-        rest(x, 5);
+        Games.rest(x, 5);
         x.turnOver();
-        type(x, "ws1!");
-        same("with a buffer", x.digest(), digestOf(x, 0, 0, "ws1!"));
+        Games.type(x, "ws1!");
+        same("with a buffer", x.digest(), DigestSentences.due(x, 0, 0, "ws1!"));
         x.keep(1);
-        same("with slot 1", x.digest(), digestOf(x, 0, 1, "ws1!"));
+        same("with slot 1", x.digest(), DigestSentences.due(x, 0, 1, "ws1!"));
         x.keep(0);
         x.clearBuffer();
         x.player(4, 1);
         x.set(3, 9);
-        same("with both slots", x.digest(), digestOf(x, 1, 1, ""));
-        same("again the same", x.digest(), digestOf(x, 1, 1, ""));
-        HourglassTag other = withPlayers(0, 7);
+        same("with both slots", x.digest(), DigestSentences.due(x, 1, 1, ""));
+        same("again the same", x.digest(), DigestSentences.due(x, 1, 1, ""));
+        HourglassTag other = Games.withPlayers(0, 7);
         long before = other.digest();
         other.rest();
         other.undo();
         same("comes back with undo", other.digest(), before);
     }
 
-    private static long digestOf(HourglassTag x, int slot0, int slot1, String buffer) {
-        long hash = 3229;
-        for (int what = 0; what <= 10; what++) {
-            hash = 31 * hash + x.count(what);
-        }
-        for (int i = 0; i < 4; i++) {
-            hash = 31 * hash + x.setting(i);
-        }
-        for (int tower = 0; tower < 10; tower++) {
-            for (int what = 0; what <= 3; what++) {
-                hash = 31 * hash + x.tower(tower, what);
-            }
-            hash = 31 * hash + x.price(0, tower, 0);
-            hash = 31 * hash + x.price(0, tower, 1);
-        }
-        for (int player = 0; player < x.count(0); player++) {
-            for (int what = 0; what <= 8; what++) {
-                hash = 31 * hash + x.playerOf(player, what);
-            }
-            for (int tower = 0; tower < 10; tower++) {
-                hash = 31 * hash + x.whyNot(player, tower);
-            }
-            hash = 31 * hash + x.movesTo(player, 9);
-        }
-        hash = 31 * hash + x.prey();
-        hash = 31 * hash + x.lookout();
-        hash = 31 * hash + Double.doubleToLongBits(x.belowShare());
-        hash = 31 * hash + slot0;
-        hash = 31 * hash + slot1;
-        hash = 31 * hash + buffer.length();
-        for (int i = 0; i < buffer.length(); i++) {
-            hash = 31 * hash + buffer.charAt(i);
-        }
-        return hash;
-    }
-
-    /** 9999 moves lie far behind the 512th call, where the document promises nothing: the guard is tested all the same. */
+    /** 9999 moves lie far behind the 512th call, where the document promises nothing: the guard is tested, though. */
     private static void mostMoves() {
-        HourglassTag x = withPlayers(3, 30);
-        rest(x, 9999);
+        HourglassTag x = Games.withPlayers(3, 30);
+        Games.rest(x, 9999);
         same("9999 moves", x.count(3), 9999);
         refuses("rest", x, STATE, x::rest);
         refuses("stride", x, STATE, () -> x.stride(4));
@@ -1017,7 +953,7 @@ public final class PromisesTest {
         refuses("turnOver", x, STATE, x::turnOver);
         refuses("tag", x, STATE, () -> x.tag(0));
         refuses("tag of no player", x, INDEX, () -> x.tag(1));
-        type(x, "w");
+        Games.type(x, "w");
         same("run does none", x.run(), 0);
         x.undo();
         x.undo();
