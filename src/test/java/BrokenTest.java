@@ -1,39 +1,20 @@
-import java.io.ByteArrayOutputStream;
 import java.io.IOException;
 import java.io.InputStream;
-import java.io.OutputStream;
 import java.lang.reflect.InvocationTargetException;
 import java.lang.reflect.Method;
-import java.net.URI;
-import java.nio.charset.StandardCharsets;
-import java.nio.file.Files;
-import java.nio.file.Path;
 import java.util.ArrayList;
 import java.util.HashMap;
 import java.util.List;
 import java.util.Map;
 import java.util.stream.IntStream;
-import javax.tools.FileObject;
-import javax.tools.ForwardingJavaFileManager;
-import javax.tools.JavaCompiler;
-import javax.tools.JavaFileManager;
-import javax.tools.JavaFileObject;
-import javax.tools.SimpleJavaFileObject;
-import javax.tools.ToolProvider;
 
 /** Breaks the program sentence by sentence: the test of the sentence has to fail with each wrong program. */
 public final class BrokenTest {
-    private static final Path PROGRAM = Path.of("src", "main", "java", "HourglassTag.java");
-    private static final JavaCompiler COMPILER = ToolProvider.getSystemJavaCompiler();
-    /** One for each thread, used again: what it has read of the Java library it reads once. */
-    private static final ThreadLocal<JavaFileManager> FILES =
-        ThreadLocal.withInitial(() -> COMPILER.getStandardFileManager(null, null, null));
-
     private BrokenTest() {
     }
 
     public static void main(String[] args) throws IOException {
-        String source = Files.readString(PROGRAM, StandardCharsets.UTF_8);
+        String source = Programs.asItStands();
         List<Sentence> sentences = Sentences.ofDocument();
         Check check = new Check();
         check.same("the program as it is", wrongWith(source, 0), "");
@@ -78,7 +59,7 @@ public final class BrokenTest {
     /** What the test of the sentence tells first, when it runs with this program. */
     private static String wrongWith(String source, int number) {
         Map<String, byte[]> classes = new HashMap<>();
-        String trouble = compile(source, classes);
+        String trouble = Programs.compile(source, classes);
         if (!trouble.isEmpty()) {
             return "COMPILER: " + trouble;
         }
@@ -91,47 +72,6 @@ public final class BrokenTest {
             return "threw " + e.getCause();
         } catch (ReflectiveOperationException e) {
             throw new IllegalStateException(e);
-        }
-    }
-
-    private static String compile(String source, Map<String, byte[]> classes) {
-        StringBuilder trouble = new StringBuilder();
-        JavaFileObject text = new SimpleJavaFileObject(URI.create("string:///HourglassTag.java"),
-                JavaFileObject.Kind.SOURCE) {
-            @Override
-            public CharSequence getCharContent(boolean ignoreErrors) {
-                return source;
-            }
-        };
-        JavaFileManager files = new InMemory(FILES.get(), classes);
-        boolean fine = COMPILER.getTask(null, files, message -> trouble.append(message.getMessage(null)).append("; "),
-            List.of("-proc:none", "-Xlint:none", "-g:none"), null, List.of(text)).call();
-        return fine ? "" : trouble.toString();
-    }
-
-    /** Keeps what is compiled, and writes no file. */
-    private static final class InMemory extends ForwardingJavaFileManager<JavaFileManager> {
-        private final Map<String, byte[]> classes;
-
-        InMemory(JavaFileManager files, Map<String, byte[]> classes) {
-            super(files);
-            this.classes = classes;
-        }
-
-        @Override
-        public JavaFileObject getJavaFileForOutput(Location location, String name, JavaFileObject.Kind kind,
-                FileObject sibling) {
-            return new SimpleJavaFileObject(URI.create("string:///" + name + ".class"), kind) {
-                @Override
-                public OutputStream openOutputStream() {
-                    return new ByteArrayOutputStream() {
-                        @Override
-                        public void close() {
-                            classes.put(name, toByteArray());
-                        }
-                    };
-                }
-            };
         }
     }
 
