@@ -30,16 +30,17 @@ final class Face {
     static List<String> faultsOf(String source) throws IOException, ReflectiveOperationException {
         CompilationUnitTree document = Programs.parse(ofDocument()).unit();
         CompilationUnitTree program = Programs.parse(source).unit();
+        Class<?> made = Programs.load(source);
         List<String> faults = new ArrayList<>();
         compare(faults, "the source", open(document), open(program));
-        compare(faults, "the class", withoutNames(open(document)), open(Programs.load(source)));
+        compare(faults, "the class", withoutNames(open(document)), open(made));
         Set<String> names = methodNames(document);
         for (String name : closedMethodNames(program)) {
             if (names.contains(name)) {
                 faults.add("a private method bears the name of a public one: " + name);
             }
         }
-        classesInside(faults, Programs.load(source));
+        classesInside(faults, made);
         return faults;
     }
 

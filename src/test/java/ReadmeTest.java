@@ -57,7 +57,9 @@ public final class ReadmeTest {
             CHECK.holds("told: " + change[1], !faultsOfTables(changed(readme, change)).isEmpty());
         }
         for (String[] change : new String[][] {
-            {"`movesTo`", "`moves`"}, {"`ModelTest`", "`ModelsTest`"}, {"`../shared/DOC.md`", "`../shared/DOCUMENT.md`"},
+            {"`movesTo`", "`moves`"},
+            {"`ModelTest`", "`ModelsTest`"},
+            {"`../shared/DOC.md`", "`../shared/DOCUMENT.md`"},
         }) {
             CHECK.holds("told: " + change[1], !faultsOfNames(readme.replace(change[0], change[1])).isEmpty());
         }
@@ -90,7 +92,8 @@ public final class ReadmeTest {
                 faults.add("README does not tell what " + test + " does");
             }
         }
-        Matcher named = Pattern.compile("`((?:\\.\\./shared|src|\\.ci)/[\\w./]*|\\w+(?:Test|Sentences))`").matcher(readme);
+        String places = "(?:\\.\\./shared|src|\\.ci)/[\\w./]*";
+        Matcher named = Pattern.compile("`(" + places + "|\\w+(?:Test|Sentences))`").matcher(readme);
         while (named.find()) {
             String name = named.group(1);
             Path path = name.contains("/") ? Path.of(name) : Path.of("src", "test", "java", name + ".java");
@@ -238,7 +241,8 @@ public final class ReadmeTest {
 
     private static Ended command(String line) throws IOException, InterruptedException {
         Process process = new ProcessBuilder("bash", "-c", line).directory(PROJECT.toFile())
-            .redirectErrorStream(true).redirectInput(ProcessBuilder.Redirect.from(Path.of("/dev/null").toFile())).start();
+            .redirectErrorStream(true).start();
+        process.getOutputStream().close();
         String written = new String(process.getInputStream().readAllBytes(), StandardCharsets.UTF_8);
         return new Ended(written, process.waitFor());
     }

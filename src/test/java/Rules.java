@@ -243,7 +243,8 @@ final class Rules extends TreeScanner<Void, Void> {
             @Override
             public Void visitUnary(UnaryTree change, Void nothing) {
                 boolean steps = change.getKind().toString().matches("(PRE|POST)FIX_.*");
-                need(!steps || !change.getExpression().toString().equals(name), "rule 9: the counter is changed", change);
+                boolean other = !change.getExpression().toString().equals(name);
+                need(!steps || other, "rule 9: the counter is changed", change);
                 return super.visitUnary(change, nothing);
             }
         }.scan(tree.getStatement(), null);
